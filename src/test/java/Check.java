@@ -1,0 +1,88 @@
+/** What the tests share: an answer that is not the one due is printed and counted. */
+final class Check {
+    private int calls;
+    private int wrong;
+
+    void due(String what, long got, long want) {
+        calls++;
+        if (got != want) {
+            wrong++;
+            if (wrong <= 40) {
+                System.out.println(what + " answered " + got + ", due is " + want);
+            }
+        }
+    }
+
+    /** A call that is refused by a finding: the answer, which it is, how often it was; nothing else changes. */
+    void finding(HemLine x, String what, Call call, int which) {
+        int before = x.findings(which);
+        refused(x, what, call, HemLine.FINDING);
+        due(what + " finding()", x.finding(), which);
+        due(what + " findings(" + which + ")", x.findings(which), before + 1);
+    }
+
+    /** A call that is refused (or answers NONE): all that can be seen stays. */
+    void refused(HemLine x, String what, Call call, int answer) {
+        long findings = allFindings(x);
+        int finding = x.finding();
+        long[] before = seen(x);
+        due(what, call.on(x), answer);
+        long[] after = seen(x);
+        for (int k = 0; k < before.length; k++) {
+            due(what + " leaves " + k, after[k], before[k]);
+        }
+        if (answer != HemLine.FINDING) {
+            due(what + " leaves finding()", x.finding(), finding);
+            due(what + " leaves findings()", allFindings(x), findings);
+        }
+    }
+
+    private static long allFindings(HemLine x) {
+        return x.findings(1) + x.findings(2) + x.findings(3) + x.findings(4) + x.findings(5);
+    }
+
+    private static long[] seen(HemLine x) {
+        return new long[] {x.digest(), x.asked(), x.upper(), x.lower(), x.count(2), x.count(6), x.count(10)};
+    }
+
+    void end() {
+        System.out.println(calls + " answers, " + wrong + " not as due");
+        if (wrong != 0) {
+            System.exit(1);
+        }
+    }
+
+    interface Call {
+        long on(HemLine x);
+    }
+
+    static void write(HemLine x, int t, String signs) {
+        x.text(t, signs.length());
+        for (int i = 0; i < signs.length(); i++) {
+            x.put(t, i, signs.charAt(i));
+        }
+    }
+
+    static void fill(HemLine x, int r, int... values) {
+        x.row(r, values.length);
+        for (int i = 0; i < values.length; i++) {
+            x.lay(r, i, values[i]);
+        }
+    }
+
+    /** A new object with a DELTA by these signs. */
+    static HemLine by(String signs) {
+        HemLine x = new HemLine();
+        write(x, 0, signs);
+        x.delta(0);
+        return x;
+    }
+
+    /** DEEDS till there are so many, and WOMAN 0 is at the PLACE where she was or at another one. */
+    static void moveTill(HemLine x, int deeds) {
+        while (x.count(2) < deeds) {
+            x.woman(0, 1);
+            x.move(0, x.asked() == 0 ? 1 : 0);
+        }
+    }
+}
