@@ -74,7 +74,9 @@ final class Check {
     static HemLine by(String signs) {
         HemLine x = new HemLine();
         write(x, 0, signs);
-        x.delta(0);
+        if (x.delta(0) <= 0) {
+            throw new IllegalStateException("no DELTA: " + signs);
+        }
         return x;
     }
 
