@@ -40,6 +40,9 @@ public final class ChancesTest {
         x.move(3, 0);
         told(x, "odds(2) by a move", x.odds(2), 2, 3);
         told(x, "odds(3) by a move", x.odds(3), 2, 3);
+        HemLine one = Check.by("d3000000 w010");
+        one.flood(4);
+        told(one, "odds(1) of one WOMAN", one.odds(1), 1, 1);
         x.undo(1);
         told(x, "odds(0) of 1", x.odds(0), 1, 1);
         told(x, "odds(1) of 1", x.odds(1), 0, 1);
@@ -72,6 +75,12 @@ public final class ChancesTest {
         told(x, "mid() by a dyke", x.mid(), 45, 4);
         x.move(1, 0);
         told(x, "mid() by a move", x.mid(), 12, 1);
+        x.undo(2);
+        told(x, "mid() of 0, 3 as undone", x.mid(), 2, 1);
+        Check.write(x, 1, "d0000000 w010");
+        x.delta(1);
+        x.flood(7);
+        told(x, "mid() of one WOMAN where two were", x.mid(), 7, 1);
     }
 
     private static void midRefused() {

@@ -15,6 +15,7 @@ public final class DeedsTest {
         undo();
         undoRefused();
         keepAndOn();
+        keptWithDeeds();
         keepRefused();
         onRefused();
         check.end();
@@ -228,6 +229,35 @@ public final class DeedsTest {
         check.due("hem(0, 1)", x.hem(0, 1), 1);
         check.due("on(0) is anew", x.on(0), 0);
         check.due("count(10) stays", x.count(10), 3);
+    }
+
+    /** A kept DELTA has its own DEEDS, which are undone one by one, whatever was done meanwhile. */
+    private static void keptWithDeeds() {
+        HemLine x = Check.by("d1200005 l031 w130");
+        long[] digests = new long[5];
+        digests[0] = digestWithoutKept(x);
+        x.flood(7);
+        digests[1] = digestWithoutKept(x);
+        x.move(1, 4);
+        digests[2] = digestWithoutKept(x);
+        x.dyke(4);
+        digests[3] = digestWithoutKept(x);
+        x.tuck(0);
+        digests[4] = digestWithoutKept(x);
+        x.keep(1);
+        x.undo(0);
+        x.tuck(1);
+        x.tuck(1);
+        x.flood(2);
+        x.move(0, 3);
+        for (int k = 4; k > 0; k--) {
+            check.due("on(1)", x.on(1), 4);
+            check.due("count(6)", x.count(6), 7);
+            check.due("undo(" + k + ")", x.undo(k), 4 - k);
+            check.due("digest() of " + k, digestWithoutKept(x), digests[k]);
+        }
+        check.due("undo(0)", x.undo(0), 1);
+        check.due("digest() of 0", digestWithoutKept(x), digests[0]);
     }
 
     /** What the DELTA alone shows; kept ones are in the digest, too. */

@@ -140,6 +140,14 @@ public final class DykesTest {
         HemLine full = Check.by("d9999990 w010 w010 w310");
         duels(full, 0, 20, 100 + 11 - 22);
         duels(full, 6, 20, 100 + 11 - 22);
+        // who has no room of its own can't raise the other bank's GROUND to bring the water
+        duels(Check.by("d9990000 w410"), 1, 5, 105);
+        duels(Check.by("d0009990 w010"), 2, 5, 95);
+        // the water comes up to who is dry, and no deeper than none
+        HemLine high = Check.by("d5000000 w010 w310");
+        duels(high, 0, 3, 103);
+        duels(high, 0, 0, 100);
+        duels(high, 1, 3, 104);
         HemLine both = Check.by("d8990990 w010 w010 w310");
         // first: PLACE 0 or 1, 2 (full) or none; second: PLACE 3 or none
         duels(both, 1, 20, 100 + 20 - 22);

@@ -112,6 +112,14 @@ public final class HeightsTest {
         looksAt(x, 8, 1, 0, 12);
         looksAt(x, 2, 1, 3, 12);
         check.refused(x, "look(63, 0)", y -> y.look(63, 0), HemLine.NONE);
+        HemLine girl = Check.by("d0000000 g090 g050");
+        girl.flood(20);
+        looksAt(girl, 0, 0, 0, 12);
+        looksAt(girl, 2, 0, 0, 12);
+        looksAt(girl, 1, 0, 1, 12);
+        HemLine low = Check.by("d9000000 l091");
+        low.flood(0);
+        looksAt(low, 0, 0, 0, 11);
         HemLine two = Check.by("d0000000 w010 w050 w030");
         two.flood(2);
         looksAt(two, 0, 0, 1, 16);

@@ -115,6 +115,9 @@ public final class ToldTest {
         x.tear(5);
         x.undo(1);
         counts(x, 6, 1, 1, 7, 21, 8, 9, 2, 2, 2, 3);
+        Check.write(x, 1, "d0000000 g013");
+        x.delta(1);
+        counts(x, 1, 0, 0, 0, 0, 3, 0, 1, 2, 3, 0);
         for (int what : new int[] {-1, 11, LEAST, MOST}) {
             check.refused(x, "count(" + what + ")", y -> y.count(what), HemLine.BAD);
         }
