@@ -181,10 +181,12 @@ public final class HeightsTest {
     }
 
     private static void refused() {
+        refusedYears(Check.by("d0000000 w030 w020"), 0);
+        HemLine flooded = Check.by("d0000000 w030 w020");
+        flooded.flood(3);
+        refusedYears(flooded, 1);
         HemLine x = Check.by("d0000000 w030 w020");
-        refusedYears(x, 0);
         x.flood(3);
-        refusedYears(x, 1);
         for (int set : new int[] {-1, 4, 63, LEAST, MOST}) {
             check.refused(x, "know(" + set + ", 0)", y -> y.know(set, 0), HemLine.BAD);
             check.refused(x, "look(" + set + ", 0)", y -> y.look(set, 0), HemLine.BAD);

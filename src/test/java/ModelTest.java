@@ -1,13 +1,14 @@
 import java.util.Random;
 
-/** Runs of 512 calls by chance, each answer and all that can be seen held against the plain Model. */
+/** Runs of at most 512 calls by chance, each answer and what can be seen held against the plain Model. */
 public final class ModelTest {
     private static final Check check = new Check();
-    private static final int RUNS = 400, CALLS = 512;
+    private static final int RUNS = 2000, CALLS = 512, MOST_CALLS_OF_ONE_TURN = 100;
     private static final String LETTERS = "wblvga";
 
-    private HemLine x;
-    private Model m;
+    private final HemLine object = new HemLine();
+    private final Model m = new Model();
+    private int used;
     private Random chance;
 
     public static void main(String[] args) {
@@ -20,29 +21,42 @@ public final class ModelTest {
 
     private void run(int seed) {
         chance = new Random(seed);
-        x = new HemLine();
-        m = new Model();
         int written = 0;
-        for (int k = 0; k < CALLS; k++) {
-            if (seed % 8 != 0 && (k == 0 || written < 6 && chance.nextInt(80) == 0)) {
+        for (int k = 0; used < CALLS - MOST_CALLS_OF_ONE_TURN; k++) {
+            if (seed % 8 != 0 && (k == 0 || written < 3 && chance.nextInt(40) == 0)) {
                 written++;
                 writeDelta(seed);
             }
-            String call = "run " + seed + " call " + k + ": ";
+            String call = "run " + seed + " turn " + k + ": ";
             one(call);
-            seen(call);
+            check.due(call + "asked()", x().asked(), m.asked);
+            check.due(call + "finding()", x().finding(), m.finding);
+            check.due(call + "digest()", x().digest(), m.digest());
         }
+        seen("run " + seed + " in the end: ");
+        due("calls of run " + seed, used <= CALLS);
+    }
+
+    private static void due(String what, boolean well) {
+        check.due(what, well ? 1 : 0, 1);
+    }
+
+    /** Each use of it is a call. */
+    private HemLine x() {
+        used++;
+        return object;
+    }
+
+    private void parts(String call) {
+        check.due(call + "upper()", x().upper(), m.upper);
+        check.due(call + "lower()", x().lower(), m.lower);
     }
 
     private void seen(String call) {
-        check.due(call + "asked()", x.asked(), m.asked);
-        check.due(call + "upper()", x.upper(), m.upper);
-        check.due(call + "lower()", x.lower(), m.lower);
-        check.due(call + "finding()", x.finding(), m.finding);
+        parts(call);
         for (int f = 1; f <= 5; f++) {
-            check.due(call + "findings()", x.findings(f), m.findings[f]);
+            check.due(call + "findings()", x().findings(f), m.findings[f]);
         }
-        check.due(call + "digest()", x.digest(), m.digest());
     }
 
     /** A number from one to another one; at times just beyond, or far off. */
@@ -80,16 +94,16 @@ public final class ModelTest {
         blanks(s);
         int t = chance.nextInt(4);
         int size = Math.min(60, s.length());
-        check.due("text", x.text(t, size), m.text(t, size));
+        check.due("text", x().text(t, size), m.text(t, size));
         for (int i = 0; i < size; i++) {
-            check.due("put", x.put(t, i, s.charAt(i)), m.put(t, i, s.charAt(i)));
+            check.due("put", x().put(t, i, s.charAt(i)), m.put(t, i, s.charAt(i)));
         }
         if (chance.nextInt(6) == 0) {
             int i = chance.nextInt(size), v = "d wblvga0123456789x".charAt(chance.nextInt(19));
-            check.due("put", x.put(t, i, v), m.put(t, i, v));
+            check.due("put", x().put(t, i, v), m.put(t, i, v));
         }
-        check.due("fault(" + s + ")", x.fault(t), m.fault(t));
-        check.due("delta(" + s + ")", x.delta(t), m.delta(t));
+        check.due("fault(" + s + ")", x().fault(t), m.fault(t));
+        check.due("delta(" + s + ")", x().delta(t), m.delta(t));
     }
 
     private void blanks(StringBuilder s) {
@@ -112,17 +126,17 @@ public final class ModelTest {
     private void rowsTexts(String call, int kind) {
         int a = number(0, 5), b = number(0, 8), c = number(0, 5), d = number(0, 8), e = number(0, 5);
         switch (kind) {
-            case 0: check.due(call + "row", x.row(a, b), m.row(a, b)); break;
-            case 1: check.due(call + "row", x.row(a, d = number(0, 40)), m.row(a, d)); break;
-            case 2: check.due(call + "lay", x.lay(a, b, e), m.lay(a, b, e, true)); break;
-            case 3: e = chance.nextInt(); check.due(call + "lay", x.lay(a, b, e), m.lay(a, b, e, true)); break;
-            case 4: check.due(call + "at", x.at(a, b), m.lay(a, b, 0, false)); break;
-            case 5: check.due(call + "tear", x.tear(a), m.tear(a)); break;
-            case 6: check.due(call + "copy", x.copy(a, b, c, d, e), m.copy(a, b, c, d, e)); break;
-            case 7: check.due(call + "mean", x.mean(a), m.mean(a)); break;
-            case 8: a = number(0, 3); b = number(0, 60); check.due(call + "text", x.text(a, b), m.text(a, b)); break;
-            case 9: a = number(0, 3); check.due(call + "put", x.put(a, b, e), m.put(a, b, e)); break;
-            case 10: a = number(0, 3); check.due(call + "fault", x.fault(a), m.fault(a)); break;
+            case 0: check.due(call + "row", x().row(a, b), m.row(a, b)); break;
+            case 1: check.due(call + "row", x().row(a, d = number(0, 40)), m.row(a, d)); break;
+            case 2: check.due(call + "lay", x().lay(a, b, e), m.lay(a, b, e, true)); break;
+            case 3: e = chance.nextInt(); check.due(call + "lay", x().lay(a, b, e), m.lay(a, b, e, true)); break;
+            case 4: check.due(call + "at", x().at(a, b), m.lay(a, b, 0, false)); break;
+            case 5: check.due(call + "tear", x().tear(a), m.tear(a)); break;
+            case 6: check.due(call + "copy", x().copy(a, b, c, d, e), m.copy(a, b, c, d, e)); break;
+            case 7: check.due(call + "mean", x().mean(a), m.mean(a)); break;
+            case 8: a = number(0, 3); b = number(0, 60); check.due(call + "text", x().text(a, b), m.text(a, b)); break;
+            case 9: a = number(0, 3); check.due(call + "put", x().put(a, b, e), m.put(a, b, e)); break;
+            case 10: a = number(0, 3); check.due(call + "fault", x().fault(a), m.fault(a)); break;
             default: pairs(call); break;
         }
     }
@@ -130,95 +144,95 @@ public final class ModelTest {
     /** A ROW of pairs that one of the KINDS may well have. */
     private void pairs(String call) {
         int r = number(0, 5), many = 1 + chance.nextInt(2);
-        check.due(call + "row", x.row(r, 2 * many), m.row(r, 2 * many));
+        check.due(call + "row", x().row(r, 2 * many), m.row(r, 2 * many));
         for (int k = 0; k < many; k++) {
-            int f = number(0, 20), v = chance.nextBoolean() ? number(0, 10) : x.would(0, f);
-            check.due(call + "lay", x.lay(r, 2 * k, f), m.lay(r, 2 * k, f, true));
-            check.due(call + "lay", x.lay(r, 2 * k + 1, v), m.lay(r, 2 * k + 1, v, true));
+            int f = number(0, 20), v = chance.nextBoolean() ? number(0, 10) : x().would(0, f);
+            check.due(call + "lay", x().lay(r, 2 * k, f), m.lay(r, 2 * k, f, true));
+            check.due(call + "lay", x().lay(r, 2 * k + 1, v), m.lay(r, 2 * k + 1, v, true));
         }
-        int i = number(0, x.count(0) - 1);
-        check.due(call + "kinds", x.kinds(i, r), m.kinds(i, r));
-        check.due(call + "test", x.test(i, r), m.test(i, r));
+        int i = number(0, x().count(0) - 1);
+        check.due(call + "kinds", x().kinds(i, r), m.kinds(i, r));
+        check.due(call + "test", x().test(i, r), m.test(i, r));
     }
 
     private void deeds(String call, int kind) {
-        int i = number(0, x.count(0) - 1), p = number(0, 5), k = number(0, 2);
+        int i = number(0, x().count(0) - 1), p = number(0, 5), k = number(0, 2);
         switch (kind) {
             case 12: case 13: case 14: {
                 int f = number(0, 20);
-                check.due(call + "flood", x.flood(f), m.flood(f));
+                check.due(call + "flood", x().flood(f), m.flood(f));
                 break;
             }
-            case 15: case 16: check.due(call + "move", x.move(i, p), m.move(i, p)); break;
-            case 17: case 18: check.due(call + "dyke", x.dyke(p), m.dyke(p)); break;
-            case 19: case 20: check.due(call + "tuck", x.tuck(i), m.tuck(i)); break;
+            case 15: case 16: check.due(call + "move", x().move(i, p), m.move(i, p)); break;
+            case 17: case 18: check.due(call + "dyke", x().dyke(p), m.dyke(p)); break;
+            case 19: case 20: check.due(call + "tuck", x().tuck(i), m.tuck(i)); break;
             case 21: {
-                int n = chance.nextInt(3) == 0 ? number(0, x.count(2)) : x.count(2) - chance.nextInt(3);
-                check.due(call + "undo", x.undo(n), m.undo(n));
+                int n = chance.nextInt(3) == 0 ? number(0, x().count(2)) : x().count(2) - chance.nextInt(3);
+                check.due(call + "undo", x().undo(n), m.undo(n));
                 break;
             }
-            case 22: check.due(call + "keep", x.keep(k), m.keep(k)); break;
-            case 23: check.due(call + "on", x.on(k), m.on(k)); break;
+            case 22: check.due(call + "keep", x().keep(k), m.keep(k)); break;
+            case 23: check.due(call + "on", x().on(k), m.on(k)); break;
             case 24: {
                 int n = chance.nextInt(3) == 0 ? number(1, 20) : number(1, 4);
                 int seed = chance.nextInt(8) == 0 ? number(1, 2147483646) : 1 + chance.nextInt(2147483646);
-                check.due(call + "lots", x.lots(n, seed), m.lots(n, seed));
+                check.due(call + "lots", x().lots(n, seed), m.lots(n, seed));
                 break;
             }
             default: {
                 int t = number(0, 3);
                 if (chance.nextInt(4) == 0) {
-                    check.due(call + "delta", x.delta(t), m.delta(t));
+                    check.due(call + "delta", x().delta(t), m.delta(t));
                 }
             }
         }
     }
 
     private void questions(String call, int kind) {
-        int i = number(0, x.count(0) - 1), y = number(0, x.count(1) - 1), f = number(0, 20), n = number(0, 6);
-        int set = number(0, (1 << x.count(0)) - 1), r = number(0, 5), what = number(0, 5);
+        int i = number(0, x().count(0) - 1), y = number(0, x().count(1) - 1), f = number(0, 20), n = number(0, 6);
+        int set = number(0, (1 << x().count(0)) - 1), r = number(0, 5), what = number(0, 5);
         switch (kind) {
-            case 26: check.due(call + "woman", x.woman(i, what), m.woman(i, what)); break;
-            case 27: check.due(call + "mark", x.mark(i, what), m.mark(i, what)); break;
-            case 28: check.due(call + "hem", x.hem(i, y), m.hem(i, y)); break;
-            case 29: check.due(call + "would", x.would(i, f), m.would(i, f)); break;
-            case 30: check.due(call + "know", x.know(set, y), m.know(set, y)); break;
-            case 31: check.due(call + "high", x.high(y), m.high(y)); break;
-            case 32: check.due(call + "look", x.look(set, y), m.look(set, y)); break;
-            case 33: check.due(call + "looks", x.looks(y), m.looks(y)); break;
-            case 34: check.due(call + "line", x.line(y), m.line(y)); break;
-            case 35: check.due(call + "kinds", x.kinds(i, r), m.kinds(i, r)); break;
+            case 26: check.due(call + "woman", x().woman(i, what), m.woman(i, what)); break;
+            case 27: check.due(call + "mark", x().mark(i, what), m.mark(i, what)); break;
+            case 28: check.due(call + "hem", x().hem(i, y), m.hem(i, y)); break;
+            case 29: check.due(call + "would", x().would(i, f), m.would(i, f)); break;
+            case 30: check.due(call + "know", x().know(set, y), m.know(set, y)); break;
+            case 31: check.due(call + "high", x().high(y), m.high(y)); break;
+            case 32: check.due(call + "look", x().look(set, y), m.look(set, y)); break;
+            case 33: check.due(call + "looks", x().looks(y), m.looks(y)); break;
+            case 34: check.due(call + "line", x().line(y), m.line(y)); break;
+            case 35: check.due(call + "kinds", x().kinds(i, r), m.kinds(i, r)); break;
             case 36: hemsOfOne(call, r); break;
-            case 37: check.due(call + "whose", x.whose(r), m.whose(r)); break;
+            case 37: check.due(call + "whose", x().whose(r), m.whose(r)); break;
             case 38:
                 if (chance.nextInt(4) == 0) {
-                    check.due(call + "raise", x.raise(n, f, r), m.raise(n, f, r));
+                    check.due(call + "raise", x().raise(n, f, r), m.raise(n, f, r));
                 }
                 break;
-            case 39: check.due(call + "dry", x.dry(), m.dry()); break;
-            case 40: check.due(call + "least", x.least(i, f, what), m.least(i, f, what)); break;
+            case 39: check.due(call + "dry", x().dry(), m.dry()); break;
+            case 40: check.due(call + "least", x().least(i, f, what), m.least(i, f, what)); break;
             case 41:
                 if (chance.nextInt(3) == 0) {
-                    check.due(call + "duel", x.duel(n, f), m.duel(n, f));
+                    check.due(call + "duel", x().duel(n, f), m.duel(n, f));
                 }
                 break;
-            case 42: check.due(call + "odds", x.odds(n), m.odds(n)); break;
-            default: check.due(call + "mid", x.mid(), m.mid()); break;
+            case 42: check.due(call + "odds", x().odds(n), m.odds(n)); parts(call); break;
+            default: check.due(call + "mid", x().mid(), m.mid()); parts(call); break;
         }
     }
 
     /** A ROW that begins as the HEMS of one of them, perhaps not to the end. */
     private void hemsOfOne(String call, int r) {
-        int years = x.count(1), women = x.count(0);
+        int years = x().count(1), women = x().count(0);
         if (women == 0) {
             return;
         }
         int i = chance.nextInt(women), size = chance.nextBoolean() ? years : chance.nextInt(years + 1);
-        check.due(call + "row", x.row(r, size), m.row(r, size));
+        check.due(call + "row", x().row(r, size), m.row(r, size));
         for (int y = 0; y < size; y++) {
-            int v = x.hem(i, y) + (chance.nextInt(12) == 0 ? 1 : 0);
-            check.due(call + "lay", x.lay(r, y, v), m.lay(r, y, v, true));
+            int v = x().hem(i, y) + (chance.nextInt(12) == 0 ? 1 : 0);
+            check.due(call + "lay", x().lay(r, y, v), m.lay(r, y, v, true));
         }
-        check.due(call + "whose", x.whose(r), m.whose(r));
+        check.due(call + "whose", x().whose(r), m.whose(r));
     }
 }

@@ -114,12 +114,12 @@ public final class TextsTest {
     private static void everySign() {
         String[] told = {"d", "0123456789", "0123456789", "0123456789", "0123456789", "0123456789", "0123456789",
             "0123456789", " wblvga", "012345", "123456789", "0123"};
-        HemLine x = new HemLine();
         for (int place = 0; place < told.length; place++) {
             for (int sign = -128; sign < 128; sign++) {
                 if (place == 0 && sign == ' ' || place == 8 && sign == ' ') {
                     continue;
                 }
+                HemLine x = new HemLine();
                 Check.write(x, 0, LAND + "w053");
                 x.put(0, place, sign);
                 boolean well = sign >= 0 && told[place].indexOf((char) sign) >= 0;
