@@ -3,6 +3,7 @@ import com.sun.source.tree.CompilationUnitTree;
 import com.sun.source.tree.ImportTree;
 import com.sun.source.tree.LineMap;
 import com.sun.source.tree.MemberSelectTree;
+import com.sun.source.tree.MethodInvocationTree;
 import com.sun.source.tree.MethodTree;
 import com.sun.source.tree.NewClassTree;
 import com.sun.source.tree.Tree;
@@ -20,7 +21,9 @@ import java.util.ArrayList;
 import java.util.Arrays;
 import java.util.EnumSet;
 import java.util.List;
+import java.util.Map;
 import java.util.Set;
+import java.util.TreeMap;
 import java.util.TreeSet;
 import javax.tools.JavaCompiler;
 import javax.tools.StandardJavaFileManager;
@@ -115,9 +118,61 @@ public final class LanguageTest {
             SourcePositions places = Trees.instance(task).getSourcePositions();
             for (CompilationUnitTree unit : task.parse()) {
                 new Rules(unit, places).scan(unit, null);
+                Calls calls = new Calls();
+                calls.scan(unit, null);
+                calls.depths();
                 check.due("classes at the top", unit.getTypeDecls().size(), 1);
                 due("no package", unit.getPackageName() == null);
             }
+        }
+    }
+
+    /** By names alone: which method calls which, those of the library, too. */
+    private static final class Calls extends TreeScanner<Void, Void> {
+        private static final int DEEPEST = 8;
+        private final Map<String, Set<String>> calls = new TreeMap<>();
+        private final Set<String> statics = new TreeSet<>();
+        private String caller = "";
+
+        @Override
+        public Void visitMethod(MethodTree tree, Void none) {
+            caller = tree.getName().toString();
+            due("one method is called " + caller, caller.equals("<init>") || !calls.containsKey(caller));
+            calls.computeIfAbsent(caller, name -> new TreeSet<>());
+            if (tree.getModifiers().getFlags().contains(javax.lang.model.element.Modifier.STATIC)) {
+                statics.add(caller);
+            }
+            return super.visitMethod(tree, none);
+        }
+
+        @Override
+        public Void visitMethodInvocation(MethodInvocationTree tree, Void none) {
+            String name = tree.getMethodSelect().toString();
+            calls.get(caller).add(name.substring(name.lastIndexOf('.') + 1));
+            return super.visitMethodInvocation(tree, none);
+        }
+
+        void depths() {
+            for (String name : calls.keySet()) {
+                int depth = depth(name, new ArrayList<>());
+                due("calls from " + name + " on go deep: " + depth, depth <= DEEPEST);
+                due(name + " calls itself: a static one", !calls.get(name).contains(name) || statics.contains(name));
+            }
+        }
+
+        private int depth(String name, List<String> open) {
+            due("calls go round: " + open + " " + name, !open.contains(name));
+            int deepest = 0;
+            if (!open.contains(name)) {
+                open.add(name);
+                for (String called : calls.getOrDefault(name, Set.of())) {
+                    if (!called.equals(name)) {
+                        deepest = Math.max(deepest, depth(called, open));
+                    }
+                }
+                open.remove(open.size() - 1);
+            }
+            return 1 + deepest;
         }
     }
 
