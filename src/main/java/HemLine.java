@@ -675,7 +675,16 @@ public final class HemLine {
 
     private static void copyItems(int[] from, int[] to) {
         if (from != null && to != null) {
-            System.arraycopy(from, 0, to, 0, Math.min(from.length, to.length));
+            copyStretch(from, 0, to, 0, Math.min(from.length, to.length));
+        }
+    }
+
+    private static void copyStretch(int[] from, int i, int[] to, int j, int n) {
+        if (from == null || to == null || i < 0 || j < 0 || n < 0) {
+            return;
+        }
+        if (n <= from.length - i && n <= to.length - j) {
+            System.arraycopy(from, i, to, j, n);
         }
     }
 
@@ -850,31 +859,30 @@ public final class HemLine {
         }
 
         int cell(int k, int i) {
-            return isCell(k, i) ? item(cells[k], i) : 0;
+            return isCell(k, i) ? item(cellsOf(k), i) : 0;
         }
 
         void setCell(int k, int i, int v) {
             if (isCell(k, i)) {
-                setItem(cells[k], i, v);
+                setItem(cellsOf(k), i, v);
             }
         }
 
         void make(int k, int n, int v) {
-            if (isNumber(k) && n >= 0 && n <= cells[k].length) {
-                sizes[k] = n;
-                Arrays.fill(cells[k], v);
+            int[] made = cellsOf(k);
+            if (made != null && n >= 0 && n <= made.length) {
+                setItem(sizes, k, n);
+                Arrays.fill(made, v);
             }
         }
 
         void remove(int k) {
-            if (isNumber(k)) {
-                sizes[k] = MISSING;
-            }
+            setItem(sizes, k, MISSING);
         }
 
         void copyCells(int k, int i, int to, int j, int n) {
             if (hasStretch(k, i, n) && hasStretch(to, j, n)) {
-                System.arraycopy(cells[k], i, cells[to], j, n);
+                copyStretch(cellsOf(k), i, cellsOf(to), j, n);
             }
         }
 

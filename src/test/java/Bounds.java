@@ -4,7 +4,7 @@ import java.util.HashSet;
 import java.util.List;
 import java.util.Set;
 
-/** What the tests of boundaries share: each has a name of its own, which begins with its promise. */
+/** What the tests of boundaries, sentences share: each has a name of its own, which begins with its promise, sentence. */
 abstract class Bounds {
     static final int BAD = -1, FULL = -2, FINDING = -3, STATE = -4, SPENT = -6, NONE = -9;
     static final int NOTHING = 1, BEYOND = 2, UNLIKE = 3, NOUGHT = 4, SIZE = 5;
@@ -33,7 +33,7 @@ abstract class Bounds {
     // ---- tests
 
     static void test(String promise, String boundary, Runnable body) {
-        name = "promise " + promise + ": " + boundary;
+        name = (Character.isDigit(promise.charAt(0)) ? "promise " : "") + promise + ": " + boundary;
         well = true;
         is("tests of one name", names.add(name) ? 1 : 2, 1);
         try {
@@ -52,7 +52,7 @@ abstract class Bounds {
     }
 
     static void end() {
-        System.out.println(names.size() + " boundaries, " + failed + " not as due");
+        System.out.println(names.size() + " tests, " + failed + " not as due");
         if (failed != 0) {
             throw new AssertionError(failed + " not as due");
         }
