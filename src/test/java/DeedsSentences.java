@@ -164,6 +164,7 @@ final class DeedsSentences extends Sentences {
         after("3 were, one is undone", land(ONE, x -> x.tuck(0), x -> x.tuck(0), x -> x.tuck(0), x -> x.undo(2)),
             x -> x.tuck(0), 3);
         refusedEach("WOMAN", land(THREE), i -> x -> x.tuck(i), -1, 3, LEAST, MOST);
+        refused("none, where one of TUCK 3 was", land("d0000000w593w593", begun(ONE)), x -> x.tuck(1), BAD);
         refused("3", land("d0000000w013"), x -> x.tuck(0), STATE);
         refused("3 by a DEED", land(THREE, x -> x.tuck(1)), x -> x.tuck(1), STATE);
         refused("40 DEEDS", land(ONE, moves(40)), x -> x.tuck(0), FULL);
@@ -188,6 +189,10 @@ final class DeedsSentences extends Sentences {
         }
         after("twice", five, x -> x.undo(4) * 10 + x.undo(2), 12);
         after("done again", land(THREE, moves(5), x -> x.undo(2), moves(4)), x -> x.undo(1), 5);
+        afterTells("the 40th: WOMAN 1 is where she was", land("d0000000w010w410", moves(39), x -> x.move(1, 5), x -> x.undo(39)),
+            x -> x.woman(1, 1), 1, 4);
+        afterTells("the 40th: WOMAN 0 stays", land("d0000000w010w410", moves(39), x -> x.move(1, 5), x -> x.undo(39)),
+            x -> x.woman(0, 1), 1, 1);
         after("a lot each", land(THREE, x -> x.lots(7, 99)), x -> x.undo(3), 4);
         after("gone on from", land(THREE, moves(5), x -> x.keep(0), x -> x.undo(0), x -> x.on(0)), x -> x.undo(2), 3);
         after("the kept one stays", land(THREE, moves(5), x -> x.keep(0), x -> x.undo(0)), x -> x.on(0), 5);
@@ -268,6 +273,19 @@ final class DeedsSentences extends Sentences {
             int woman = k / 2, year = k % 2;
             after("HEM of WOMAN " + woman + " of YEAR " + year, gone, x -> x.hem(woman, year), hems[k]);
         }
+        after("a LIAR's HEM by her TUCK then", land("d0000000l090", floods(5), x -> x.keep(1), x -> x.undo(0), x -> x.tuck(0),
+            floods(5), x -> x.on(1)), x -> x.hem(0, 0), 5);
+        after("its DEEDS are undone, whatever was done meanwhile", () -> {
+            Call[] first = {x -> x.flood(9), x -> x.move(0, 5), x -> x.dyke(0), x -> x.tuck(0), x -> x.move(2, 0), x -> x.keep(1)};
+            Call[] meanwhile = {x -> x.undo(0), x -> x.tuck(1), x -> x.flood(3), x -> x.move(1, 3), x -> x.dyke(2),
+                x -> x.tuck(2), x -> x.on(1)};
+            HemLine x = land(THREE, each(first), each(meanwhile)).make(), same = land(THREE, first).make();
+            for (int n = 5; n > 0; n--) {
+                is("digest() with DEEDS: " + n, x.digest(), same.digest());
+                is("undo", x.undo(n - 1), same.undo(n - 1));
+            }
+            is("digest() without DEEDS", x.digest(), same.digest());
+        });
         after("its DEEDS can be undone", gone, x -> x.undo(2) * 100 + x.count(3) * 10 + x.count(1), 331);
         after("it stays kept", gone, x -> x.undo(0) * 0 + x.on(1), 5);
         after("once more", land(THREE, each(done), x -> x.on(1), x -> x.flood(3), x -> x.keep(2), x -> x.on(1)),

@@ -100,6 +100,7 @@ final class HeightsSentences extends Sentences {
         afterTells("of all but 2", four(), x -> x.look(11, 0), 2, 1);
         afterTells("of 3, who tells nothing", four(), x -> x.look(8, 0), 1, 9);
         afterTells("of 0, 3", land(FOUR, floods(1)), x -> x.look(9, 0), 1, 1);
+        afterTells("a GIRL of HEM 10 by 9 to 20", land("d0000000g090", floods(0)), x -> x.look(0, 0), 0, 12);
         afterTells("a LIAR by her TUCK then", land("d0000000l093w050", floods(4), x -> x.undo(0), x -> x.tuck(1), floods(4)),
             x -> x.look(0, 0), 0, 12);
         afterTells("what is done since does not change it", four(x -> x.move(1, 5), x -> x.move(2, 5)), x -> x.look(0, 0),
@@ -205,6 +206,7 @@ final class HeightsSentences extends Sentences {
         after("by 6 of 4, by 3 of 1, the other way round", one(fill(0, 3, 1, 6, 4)), x -> x.kinds(0, 0), 1 + 32);
         after("by 6 of 4, by 3 of 3: none", one(fill(0, 6, 4, 3, 3)), x -> x.kinds(0, 0), 0);
         after("a ROW without places: all", one(x -> x.row(0, 0)), x -> x.kinds(0, 0), 63);
+        after("a second pair of HEIGHT 20", one(fill(0, 6, 4, 20, 5)), x -> x.kinds(0, 0), 1 + 2 + 32);
         after("whatever she is", one(fill(0, 3, 3)), x -> x.kinds(1, 0), 1 + 2 + 4 + 8 + 32);
         after("laid anew", one(fill(0, 6, 4), x -> x.lay(0, 1, 3)), x -> x.kinds(0, 0), 1 << 2);
         after("a YEAR of an odd number is due", one(fill(0, 6, 3), floods(9)), x -> x.kinds(0, 0), (1 << 2) + (1 << 5));
@@ -272,6 +274,9 @@ final class HeightsSentences extends Sentences {
         afterTells("a YEAR of an odd number is due: LIAR, AUNT never", one(fill(0, 6, 3), floods(9)), x -> x.test(0, 0), 0, 2);
         afterTells("of another DELTA, YEAR 1", one(x -> x.row(0, 0), begun("d0000000w053"), floods(1)), x -> x.test(0, 0), 1,
             2);
+        // WOMAN, BRIDE, WIDOW: by 0: 0, 2, 0; by 5: 5, 5, 4
+        afterTells("the last KIND is not of the greatest part", land("d0000000w093", fill(0, 3, 3), floods(1)),
+            x -> x.test(0, 0), 0, 2);
         afterTells("GROUND 9", land("d9000000v093", fill(0, 0, 0)), x -> x.test(0, 0), 14, 2);
         afterTells("moved", one(x -> x.row(0, 0), x -> x.move(0, 1)), x -> x.test(0, 0), 6, 3);
         afterTells("undone", one(x -> x.row(0, 0), x -> x.move(0, 1), x -> x.undo(0)), x -> x.test(0, 0), 3, 3);

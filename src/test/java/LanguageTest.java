@@ -19,12 +19,15 @@ import com.sun.source.util.TreePath;
 import com.sun.source.util.TreePathScanner;
 import com.sun.source.util.Trees;
 import java.io.File;
+import java.lang.reflect.Array;
 import java.lang.reflect.Constructor;
 import java.lang.reflect.Field;
 import java.lang.reflect.Method;
 import java.lang.reflect.Modifier;
 import java.util.ArrayList;
+import java.util.Collections;
 import java.util.EnumSet;
+import java.util.IdentityHashMap;
 import java.util.List;
 import java.util.Map;
 import java.util.Set;
@@ -71,6 +74,7 @@ public final class LanguageTest {
             staticFields(inside);
         }
         text();
+        room();
         check.end();
     }
 
@@ -178,6 +182,38 @@ public final class LanguageTest {
                     && (field.getType() == int.class || field.getType() == long.class));
             }
         }
+    }
+
+    // ---- rule 12: no call makes an object (see made()), so that this is all that an object of the class needs
+
+    private static void room() throws Exception {
+        Set<Object> seen = Collections.newSetFromMap(new IdentityHashMap<>());
+        int places = placesOf(new HemLine(), seen);
+        due("rule 12: objects, arrays: " + seen.size(), seen.size() <= 100);
+        due("rule 12: fields, elements: " + places, places <= 2500);
+    }
+
+    /** How many fields and elements it has, with all that is reached from it. */
+    private static int placesOf(Object object, Set<Object> seen) throws Exception {
+        if (object == null || !seen.add(object)) {
+            return 0;
+        }
+        int places = 0;
+        if (object.getClass().isArray()) {
+            int length = Array.getLength(object);
+            for (int k = 0; k < length && object instanceof Object[] objects; k++) {
+                places += placesOf(objects[k], seen);
+            }
+            return places + length;
+        }
+        for (Field field : object.getClass().getDeclaredFields()) {
+            if (!Modifier.isStatic(field.getModifiers())) {
+                places++;
+                field.setAccessible(true);
+                places += field.getType().isPrimitive() ? 0 : placesOf(field.get(object), seen);
+            }
+        }
+        return places;
     }
 
     // ---- the text

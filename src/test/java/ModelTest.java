@@ -1,9 +1,9 @@
 import java.util.Random;
 
-/** Runs of at most 512 calls by chance, each answer and what can be seen held against the plain Model. */
+/** Runs of 512 calls by chance, each answer and what can be seen held against the plain Model. */
 public final class ModelTest {
     private static final Check check = new Check();
-    private static final int RUNS = 2000, CALLS = 512, MOST_CALLS_OF_ONE_TURN = 100;
+    private static final int RUNS = 3000, CALLS = 512, MOST_CALLS_OF_ONE_TURN = 100;
     private static final String LETTERS = "wblvga";
 
     private final HemLine object = new HemLine();
@@ -28,17 +28,42 @@ public final class ModelTest {
                 writeDelta(seed);
             }
             String call = "run " + seed + " turn " + k + ": ";
-            one(call);
-            check.due(call + "asked()", x().asked(), m.asked);
-            check.due(call + "finding()", x().finding(), m.finding);
-            check.due(call + "digest()", x().digest(), m.digest());
+            one(call, seed % 4 == 1 ? 8 : 1);
+            told(call);
         }
         seen("run " + seed + " in the end: ");
-        due("calls of run " + seed, used <= CALLS);
+        while (used < CALLS - 1) {
+            single("run " + seed + " call " + (used + 1) + ": ");
+        }
+        check.due("run " + seed + " call 512: digest()", x().digest(), m.digest());
+        check.due("calls of run " + seed, used, CALLS);
     }
 
-    private static void due(String what, boolean well) {
-        check.due(what, well ? 1 : 0, 1);
+    private void told(String call) {
+        switch (chance.nextInt(4)) {
+            case 0: check.due(call + "asked()", x().asked(), m.asked); break;
+            case 1: check.due(call + "finding()", x().finding(), m.finding); break;
+            default: check.due(call + "digest()", x().digest(), m.digest()); break;
+        }
+    }
+
+    /** One call of the object and no more. */
+    private void single(String call) {
+        int i = number(0, m.first.women.size() - 1), f = number(0, 20), p = number(0, 5), n = number(0, 40);
+        switch (chance.nextInt(12)) {
+            case 0: check.due(call + "would", x().would(i, f), m.would(i, f)); break;
+            case 1: check.due(call + "woman", x().woman(i, p), m.woman(i, p)); break;
+            case 2: check.due(call + "asked", x().asked(), m.asked); break;
+            case 3: check.due(call + "flood", x().flood(f), m.flood(f)); break;
+            case 4: check.due(call + "move", x().move(i, p), m.move(i, p)); break;
+            case 5: check.due(call + "undo", x().undo(n), m.undo(n)); break;
+            case 6: check.due(call + "row", x().row(p, n), m.row(p, n)); break;
+            case 7: check.due(call + "count", x().count(p), m.count(p)); break;
+            case 8: check.due(call + "finding", x().finding(), m.finding); break;
+            case 9: check.due(call + "findings", x().findings(p), m.findings(p)); break;
+            case 10: check.due(call + "least", x().least(i, f, p), m.least(i, f, p)); break;
+            default: check.due(call + "dry", x().dry(), m.dry()); break;
+        }
     }
 
     /** Each use of it is a call. */
@@ -112,8 +137,12 @@ public final class ModelTest {
         }
     }
 
-    private void one(String call) {
-        int kind = chance.nextInt(44);
+    /** How seldom DEEDS are undone: there are runs that come to 40 of them. */
+    private void one(String call, int seldom) {
+        int kind = chance.nextInt(46);
+        if (kind == 21 && chance.nextInt(seldom) != 0) {
+            kind = 24;
+        }
         if (kind < 12) {
             rowsTexts(call, kind);
         } else if (kind < 26) {
@@ -124,21 +153,32 @@ public final class ModelTest {
     }
 
     private void rowsTexts(String call, int kind) {
-        int a = number(0, 5), b = number(0, 8), c = number(0, 5), d = number(0, 8), e = number(0, 5);
+        int a = number(0, 5), b = number(0, 8), c = number(0, 5), d = number(0, 40), e = number(0, 5);
         switch (kind) {
             case 0: check.due(call + "row", x().row(a, b), m.row(a, b)); break;
-            case 1: check.due(call + "row", x().row(a, d = number(0, 40)), m.row(a, d)); break;
+            case 1: check.due(call + "row", x().row(a, d), m.row(a, d)); break;
             case 2: check.due(call + "lay", x().lay(a, b, e), m.lay(a, b, e, true)); break;
             case 3: e = chance.nextInt(); check.due(call + "lay", x().lay(a, b, e), m.lay(a, b, e, true)); break;
             case 4: check.due(call + "at", x().at(a, b), m.lay(a, b, 0, false)); break;
             case 5: check.due(call + "tear", x().tear(a), m.tear(a)); break;
-            case 6: check.due(call + "copy", x().copy(a, b, c, d, e), m.copy(a, b, c, d, e)); break;
+            case 6: copy(call, a, c); break;
             case 7: check.due(call + "mean", x().mean(a), m.mean(a)); break;
             case 8: a = number(0, 3); b = number(0, 60); check.due(call + "text", x().text(a, b), m.text(a, b)); break;
             case 9: a = number(0, 3); check.due(call + "put", x().put(a, b, e), m.put(a, b, e)); break;
             case 10: a = number(0, 3); check.due(call + "fault", x().fault(a), m.fault(a)); break;
             default: pairs(call); break;
         }
+    }
+
+    private void copy(String call, int a, int c) {
+        int n = number(0, 6), i = number(0, 4), j = number(0, 4);
+        check.due(call + "row", x().row(a, n), m.row(a, n));
+        for (int k = 0; k < Math.min(n, 3); k++) {
+            check.due(call + "lay", x().lay(a, k, k + 7), m.lay(a, k, k + 7, true));
+        }
+        n = number(0, 4);
+        check.due(call + "copy", x().copy(a, i, c, j, n), m.copy(a, i, c, j, n));
+        check.due(call + "copy", x().copy(a, 0, a, j, n), m.copy(a, 0, a, j, n));
     }
 
     /** A ROW of pairs that one of the KINDS may well have. */
@@ -172,7 +212,11 @@ public final class ModelTest {
                 break;
             }
             case 22: check.due(call + "keep", x().keep(k), m.keep(k)); break;
-            case 23: check.due(call + "on", x().on(k), m.on(k)); break;
+            case 23: {
+                int where = m.kept.isEmpty() || chance.nextBoolean() ? k : m.kept.keySet().iterator().next();
+                check.due(call + "on", x().on(where), m.on(where));
+                break;
+            }
             case 24: {
                 int n = chance.nextInt(3) == 0 ? number(1, 20) : number(1, 4);
                 int seed = chance.nextInt(8) == 0 ? number(1, 2147483646) : 1 + chance.nextInt(2147483646);
@@ -190,7 +234,7 @@ public final class ModelTest {
 
     private void questions(String call, int kind) {
         int i = number(0, x().count(0) - 1), y = number(0, x().count(1) - 1), f = number(0, 20), n = number(0, 6);
-        int set = number(0, (1 << x().count(0)) - 1), r = number(0, 5), what = number(0, 5);
+        int set = number(0, (1 << x().count(0)) - 1), r = number(0, 5), what = number(0, 5), v = number(0, 20);
         switch (kind) {
             case 26: check.due(call + "woman", x().woman(i, what), m.woman(i, what)); break;
             case 27: check.due(call + "mark", x().mark(i, what), m.mark(i, what)); break;
@@ -210,14 +254,16 @@ public final class ModelTest {
                 }
                 break;
             case 39: check.due(call + "dry", x().dry(), m.dry()); break;
-            case 40: check.due(call + "least", x().least(i, f, what), m.least(i, f, what)); break;
+            case 40: check.due(call + "least", x().least(i, f, v), m.least(i, f, v)); break;
             case 41:
                 if (chance.nextInt(3) == 0) {
                     check.due(call + "duel", x().duel(n, f), m.duel(n, f));
                 }
                 break;
             case 42: check.due(call + "odds", x().odds(n), m.odds(n)); parts(call); break;
-            default: check.due(call + "mid", x().mid(), m.mid()); parts(call); break;
+            case 43: check.due(call + "mid", x().mid(), m.mid()); parts(call); break;
+            case 44: what = number(0, 10); check.due(call + "count", x().count(what), m.count(what)); break;
+            default: check.due(call + "findings", x().findings(n), m.findings(n)); break;
         }
     }
 

@@ -428,6 +428,7 @@ final class RowsSentences extends Sentences {
         afterTells("the greatest, two undone", threeYears(x -> x.undo(1)), x -> x.woman(2, 5), 1, 3);
         afterTells("the greatest of none", land(ALL_KINDS), x -> x.woman(1, 5), 1, 0);
         afterTells("the greatest is the first one", land("d0000000g090", floods(9, 4)), x -> x.woman(0, 5), 1, 10);
+        afterTells("the greatest is the second one", land("d0000000w090", floods(1, 9, 2)), x -> x.woman(0, 5), 1, 9);
         afterTells("another DELTA's", threeYears(begun("d0000000b593")), x -> x.woman(0, 2), 1, 9);
         refused("what was told stays", threeYears(x -> x.woman(5, 2)), x -> x.woman(6, 2), BAD);
 
@@ -510,6 +511,10 @@ final class RowsSentences extends Sentences {
         after("another flood where one is undone", threeYears(x -> x.undo(2), floods(5)), x -> x.hem(0, 2), 3);
         after("gone on from", threeYears(x -> x.keep(1), x -> x.undo(0), floods(20), x -> x.on(1)), x -> x.hem(0, 0), 4);
         after("of another DELTA", threeYears(begun("d0000000b593"), floods(1)), x -> x.hem(0, 0), 2);
+        after("WOMAN 5 of YEAR 7", land("d0000030w090w090w090w090w090w590", floods(9, 9, 9, 9, 9, 9, 9, 8)),
+            x -> x.hem(5, 7), 5);
+        after("WOMAN 5 of YEAR 7, by her TUCK then", land("d0000000w090w090w090w090w090l593", floods(9, 9, 9, 9, 9, 9, 9, 8)),
+            x -> x.hem(5, 7), 5);
         after("asked() stays", threeYears(x -> x.woman(5, 2), x -> x.hem(0, 0)), x -> x.asked(), 9);
         refused("of YEAR 3, that is due", threeYears(), x -> x.hem(0, 3), BAD);
 

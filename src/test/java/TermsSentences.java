@@ -228,6 +228,7 @@ final class TermsSentences extends Sentences {
         afterParts("2 by 4", land(ONE, floods(0, 1, 1, 0)), x -> x.odds(1), 1, 2);
         afterParts("a mean of 2 by 4", land(ONE, floods(0, 1, 1, 0)), x -> x.mid(), 1, 2);
         afterParts("a mean of 18 by 4", land(ONE, floods(9, 5, 3, 1)), x -> x.mid(), 9, 2);
+        afterParts("3 by 6", land(ONE, floods(0, 1, 0, 1, 0, 1)), x -> x.odds(1), 1, 2);
         afterParts("6 by 2 is 3 by 1", land(ONE, floods(2, 4)), x -> x.mid(), 3, 1);
         afterParts("a chance of none is 0 by 1", land(ONE, floods(0, 0, 0)), x -> x.odds(1), 0, 1);
         afterParts("a mean of none is 0 by 1", land(ONE, floods(0, 0, 0)), x -> x.mid(), 0, 1);

@@ -69,6 +69,7 @@ final class ToldSentences extends Sentences {
         raises("undone", land(FOUR, x -> x.dyke(0), x -> x.move(0, 1), x -> x.undo(0)), 1, 6, 16, 1, 0, 0, 0, 0, 0);
         raises("gone on from", land(FOUR, x -> x.dyke(0), x -> x.keep(0), x -> x.undo(0), x -> x.on(0)), 0, 6, 16, 0, 0, 0,
             0, 0, 0);
+        raises("once more, since she moved", land(ONE, x -> x.raise(1, 9, 0), x -> x.move(0, 3)), 1, 9, 8, 0, 0, 0, 1, 0, 0);
         raises("of another DELTA", land(FOUR, begun("d0000000w310")), 2, 9, 7, 0, 0, 0, 2, 0, 0);
         raises("a ROW of 40 is one of 6 then", land(FOUR, x -> x.row(5, 40), x -> x.lay(5, 2, 9)), 1, 6, 16, 1, 0, 0, 0, 0, 0);
         raises("a ROW of none is one of 6 then", land(FOUR, x -> x.row(5, 0)), 1, 6, 16, 1, 0, 0, 0, 0, 0);
@@ -177,6 +178,13 @@ final class ToldSentences extends Sentences {
         after("one in each, the first raises", land("d0000000w090w390"), x -> x.duel(1, 5), 101);
         after("one in each, the second does, too", land("d0000000w090w390"), x -> x.duel(2, 5), 100);
         after("one in each, six turns", land("d0000000w090w390"), x -> x.duel(6, 5), 100);
+        for (int p = 0; p < 3; p++) {
+            after("the first bank raises PLACE " + p, land("d0000000w" + p + "90w490"), x -> x.duel(1, 5), 101);
+            after("the second bank raises PLACE " + (p + 3), land("d0000000w190w" + (p + 3) + "90"), x -> x.duel(2, 5), 100);
+        }
+        after("a second bank of GROUND 9 raises none", land("d0009990w090"), x -> x.duel(2, 5), 95);
+        after("a first bank of GROUND 9 raises none", land("d9990000w490"), x -> x.duel(1, 5), 105);
+        after("once more, since she moved", land(ONE, x -> x.duel(2, 5), x -> x.move(0, 3)), x -> x.duel(0, 5), 105);
         after("20 at most: the dyke helps", land(ONE), x -> x.duel(1, 20), 81);
         after("20 at most: two dykes help", land(ONE), x -> x.duel(3, 20), 82);
         after("19: the first dyke does not help", land(ONE), x -> x.duel(1, 19), 81);
@@ -245,6 +253,7 @@ final class ToldSentences extends Sentences {
         afterParts("2, 5, 10, 0 by four", fourFloods(), x -> x.mid(), 17, 4);
         afterParts("one flood more: 52", fourFloods(floods(20)), x -> x.mid(), 69, 5);
         afterParts("one flood less", fourFloods(x -> x.undo(3)), x -> x.mid(), 17, 3);
+        afterParts("a flood of 9 less", land(ONE, floods(2, 9), x -> x.undo(1)), x -> x.mid(), 2, 1);
         afterParts("moved: 4, 9, 15, 0", fourFloods(x -> x.move(2, 0)), x -> x.mid(), 7, 1);
         afterParts("a dyke: 2, 4, 9, 0", fourFloods(x -> x.dyke(1)), x -> x.mid(), 15, 4);
         afterParts("undone", fourFloods(x -> x.dyke(1), x -> x.undo(4)), x -> x.mid(), 17, 4);
@@ -434,6 +443,9 @@ final class ToldSentences extends Sentences {
             after(k + " of another DELTA", land(ALL_KINDS, each(done), begun(ONE)), x -> x.count(what),
                 new int[] {1, 0, 0, 0, 0, 0, 0, 0, 2, 2, 0}[k]);
         }
+        after("5: where six of TUCK 3 were", land("d0000000w593w593w593w593w593w593", begun(ONE)), x -> x.count(5), 0);
+        after("7: the first of them", land("d0000000b010w010"), x -> x.count(7), 1);
+        after("7: the last of them", land("d0000000w010g010"), x -> x.count(7), 1);
         after("8: one torn", bare(x -> x.row(0, 1), x -> x.row(3, 1), x -> x.tear(0)), x -> x.count(8), 1);
         after("8: all six", bare(x -> fill(0) .on(x) + fill(1).on(x) + fill(2).on(x) + fill(3).on(x) + fill(4).on(x)
             + fill(5).on(x)), x -> x.count(8), 6);
